@@ -248,7 +248,7 @@ public final class NetSchool {
             return NONE;
         }
         prepare();
-        return table.worstOf(set, 0);
+        return table.leastCost(set);
     }
 
     public int tells(int set) {
@@ -346,7 +346,7 @@ public final class NetSchool {
                 return Integer.bitCount(lesson.mendedFaults());
             case 5:
                 prepare();
-                return table.worstOf(causes.allBits(), 0);
+                return table.leastCost(causes.allBits());
             default:
                 return NO_LESSON;
         }
@@ -936,17 +936,20 @@ public final class NetSchool {
         int groupsOf(int look, int set) {
             int rest = set;
             int found = 0;
-            for (int cause = 0; cause < causes && rest != 0; cause++) {
-                if (isBit(rest, cause)) {
-                    rest &= ~alikeTo(look, cause);
-                    found++;
-                }
+            for (int round = 0; round < causes && rest != 0; round++) {
+                rest &= ~alikeTo(look, lowestBit(rest));
+                found++;
             }
             return found;
         }
 
-        /** WORST of a set; the depth stays low, as each part is less than its set. */
-        int worstOf(int set, int depth) {
+        /** WORST of a set. */
+        int leastCost(int set) {
+            return worstOf(set, 0);
+        }
+
+        /** The depth stays low, as each part is less than its set. */
+        private int worstOf(int set, int depth) {
             if (set <= 0 || set >= 1 << causes || depth > MAX_ENTRIES) {
                 return 0;
             }
@@ -967,15 +970,13 @@ public final class NetSchool {
         private int costWith(int look, int set, int depth) {
             int rest = set;
             int greatest = 0;
-            for (int cause = 0; cause < causes && rest != 0; cause++) {
-                if (isBit(rest, cause)) {
-                    int part = set & alikeTo(look, cause);
-                    if (part == set) {
-                        return NONE;
-                    }
-                    greatest = Math.max(greatest, worstOf(part, depth + 1));
-                    rest &= ~part;
+            for (int round = 0; round < causes && rest != 0; round++) {
+                int part = set & alikeTo(look, lowestBit(rest));
+                if (part == set) {
+                    return NONE;
                 }
+                greatest = Math.max(greatest, worstOf(part, depth + 1));
+                rest &= ~part;
             }
             return look >= 0 && look < prices.length ? prices[look] + greatest : NONE;
         }

@@ -10,6 +10,7 @@ public final class DoctorTest {
         promise15Answer();
         answersOfCalls();
         theSecondFaultHolds();
+        bothFaultsHold();
         promise16Goes();
         lettersAreLost();
         promise17Unlike();
@@ -249,6 +250,30 @@ public final class DoctorTest {
         C.due("the first holds when the second is mended", 10, x.use(0));
     }
 
+    private static void bothFaultsHold() {
+        NetSchool x = Check.smallNet();
+        for (int host = 0; host < 2; host++) {
+            x.fault(1, host, 0, 0);
+            x.fault(5, host, 2, 0);
+            x.fault(3, 5, host, 3);
+        }
+        x.cause(0, 3);
+        x.cause(1, 4);
+        x.cause(2, 5);
+        x.look(1, 0, 1, 0, 1);
+        x.look(1, 1, 0, 0, 1);
+        C.due("one astray", 4, x.answer(0, 0));
+        C.due("the other astray", 4, x.answer(1, 0));
+        C.due("both walled", 4, x.goes(2, 3, 0, 1));
+        C.due("both walled", 2, x.goes(2, 3, 1, 0));
+        x.namer(2);
+        for (int host = 0; host < 2; host++) {
+            x.name(host, host);
+            x.look(2, 2, host, 2, 1);
+            C.due("neither is on", 4, x.answer(2 + host, 1));
+        }
+    }
+
     private static void promise16Goes() {
         NetSchool x = Check.smallNet();
         x.fault(0, 3, 0, 0);
@@ -451,6 +476,7 @@ public final class DoctorTest {
         C.due("tells(32)", -1, x.tells(32));
         C.due("tells(-1)", -1, x.tells(-1));
         C.due("tells of one", -1, x.tells(8));
+        C.due("tells of the first one", -1, x.tells(1));
         x = cables(4, 7, 7, 7);
         C.due("then the least number", 0, x.tells(15));
         C.due("then the least number that parts", 1, x.tells(6));
@@ -460,6 +486,7 @@ public final class DoctorTest {
     }
 
     private static void promise22First() {
+        C.due("first ahead of any other call", 1, cables(4, 30, 20, 10).first(3));
         NetSchool x = cables(4, 30, 20, 10);
         C.due("worst", 60, x.worst(15));
         C.due("the least number of equal ways", 0, x.first(15));

@@ -161,6 +161,13 @@ public final class LessonTest {
         x.look(1, 0, 1, 0, 5);
         x.begin(0);
         C.due("the last look differs", 0, x.well());
+        x = Check.smallNet();
+        x.fault(0, 2, 0, 0);
+        x.cause(0, -1);
+        x.look(4, 2, 0, 0, 5);
+        x.look(0, 0, 2, 0, 5);
+        x.begin(0);
+        C.due("the first look differs", 0, x.well());
     }
 
     private static void promise28Claim() {

@@ -150,6 +150,11 @@ public final class NetTest {
         C.due("the others are on", 11, x.answer(2, -1));
         C.due("on(1, 3, true)", true, x.on(1, 3, true));
         C.due("on again", 11, x.answer(3, -1));
+        x.name(1, 0);
+        x.look(2, 2, 1, 0, 1);
+        C.due("host 0 is on", 10, x.answer(4, -1));
+        C.due("on(0, 0, false)", true, x.on(0, 0, false));
+        C.due("host 0 is not on", 4, x.answer(4, -1));
         C.due("on(2, 1, false)", true, x.on(2, 1, false));
         C.due("the namer's service is not on", 1, x.answer(0, -1));
         C.due("on of switch", false, x.on(3, 0, false));
@@ -229,6 +234,43 @@ public final class NetTest {
         x.node(1);
         C.due("another kind in the same place", -1, x.goes(-1, 0, 0, 1));
         C.due("it is no host", false, x.on(0, 0, true));
+        x.node(0);
+        x.node(0);
+        x.line(1, 0);
+        x.line(0, 2);
+        C.due("it can be passed", 0, x.next(1, 2, 0));
+        C.due("what was a wall is none", false, x.deny(5, 1, 0, true));
+        C.due("what was a router is none", false, x.route(4, 1, 0));
+        C.due("nor is the next place", false, x.route(3, 1, 0));
+        x.clear();
+        x.node(3);
+        x.node(0);
+        C.due("a wall in the first place denies", true, x.deny(0, 1, 0, true));
+        C.due("and is told its next", true, x.route(0, 1, 1));
+        x.clear();
+        x.node(0);
+        C.due("a place behind the last node", false, x.on(1, 0, true));
+        C.due("a wall behind the last node", false, x.deny(1, 0, 0, true));
+        C.due("a gate behind the last node", false, x.route(1, 0, 0));
+        wallsBehindTheLastNode(x);
+    }
+
+    /** What was a wall ahead of clear() is none as long as its place is free. */
+    private static void wallsBehindTheLastNode(NetSchool x) {
+        x.clear();
+        x.node(0);
+        x.node(3);
+        x.clear();
+        x.node(0);
+        C.due("the wall of before", false, x.deny(1, 0, 0, true));
+        C.due("the gate of before", false, x.route(1, 0, 0));
+        x.clear();
+        x.node(3);
+        x.node(0);
+        x.clear();
+        x.node(3);
+        C.due("the host of before", false, x.deny(0, 1, 0, true));
+        C.due("the namer of before", false, x.namer(1));
     }
 
     private static void fillAll(NetSchool x) {
