@@ -336,25 +336,8 @@ public final class DoctorTest {
         C.due("side by side", 2, x.goes(-1, 0, 0, 1));
     }
 
-    /** Causes: cut of line 0 .. n - 1, looks: that line's cable at the price. */
-    private static NetSchool cables(int causes, int... prices) {
-        NetSchool x = Check.net(0, 1, 1, 1, 1, 1, 1, 1, 1, 1, 1, 1);
-        for (int i = 1; i < 12; i++) {
-            x.line(i - 1, i);
-        }
-        x.line(0, 11);
-        for (int i = 0; i < causes; i++) {
-            x.fault(0, i, 0, 0);
-            x.cause(i, -1);
-        }
-        for (int i = 0; i < prices.length; i++) {
-            x.look(4, i, 0, 0, prices[i]);
-        }
-        return x;
-    }
-
     private static void promise17Unlike() {
-        NetSchool x = cables(3, 5, 6);
+        NetSchool x = Check.cables(3, 5, 6);
         C.due("unlike(0, 1)", 3, x.unlike(0, 1));
         C.due("unlike(0, 2)", 1, x.unlike(0, 2));
         C.due("unlike(2, 1)", 2, x.unlike(2, 1));
@@ -367,33 +350,33 @@ public final class DoctorTest {
         C.due("unlike(0, 3)", -1, x.unlike(0, 3));
         C.due("unlike(-1, 0)", -1, x.unlike(-1, 0));
         C.due("unlike(0, -1)", -1, x.unlike(0, -1));
-        x = cables(12, 1, 1, 1, 1, 1, 1, 1, 1, 1, 1, 1, 1);
+        x = Check.cables(12, 1, 1, 1, 1, 1, 1, 1, 1, 1, 1, 1, 1);
         C.due("unlike(0, 11)", 1 | 1 << 11, x.unlike(0, 11));
     }
 
     private static void promise18Fair() {
-        NetSchool x = cables(1);
+        NetSchool x = Check.cables(1);
         C.due("fair of one cause", 0, x.fair());
-        x = cables(3, 5, 6);
+        x = Check.cables(3, 5, 6);
         C.due("fair", 0, x.fair());
         C.due("no row told", 0, x.count(5));
-        x = cables(4, 5, 6);
+        x = Check.cables(4, 5, 6);
         C.due("not fair", 1, x.fair());
         C.dueRow("not fair", x, 2, 3);
         x.look(4, 2, 0, 0, 1);
         C.due("fair again", 0, x.fair());
         C.dueRow("fair tells no row", x, 2, 3);
-        x = cables(5);
+        x = Check.cables(5);
         C.due("no look", 1, x.fair());
         C.dueRow("no look", x, 0, 1);
-        x = cables(5, 3);
+        x = Check.cables(5, 3);
         x.cause(0, -1);
         C.due("two pairs", 1, x.fair());
         C.dueRow("the pair of the least first one", x, 0, 5);
     }
 
     private static void promise19Groups() {
-        NetSchool x = cables(0, 5);
+        NetSchool x = Check.cables(0, 5);
         C.due("groups of no cause", 0, x.groups(0));
         x.fault(0, 1, 0, 0);
         x.cause(0, -1);
@@ -417,7 +400,7 @@ public final class DoctorTest {
     }
 
     private static void promise20Worst() {
-        NetSchool x = cables(4, 10, 20, 30);
+        NetSchool x = Check.cables(4, 10, 20, 30);
         C.due("worst(15)", 60, x.worst(15));
         C.due("worst(1)", 0, x.worst(1));
         C.due("worst(3)", 10, x.worst(3));
@@ -430,23 +413,23 @@ public final class DoctorTest {
         C.due("worst(-1)", -1, x.worst(-1));
         C.due("worst(least)", -1, x.worst(Integer.MIN_VALUE));
         C.due("worst(greatest)", -1, x.worst(Integer.MAX_VALUE));
-        x = cables(3);
+        x = Check.cables(3);
         C.due("worst of no looks", 0, x.worst(7));
-        x = cables(3, 4);
+        x = Check.cables(3, 4);
         C.due("two stay unparted", 4, x.worst(7));
         C.due("none parts", 0, x.worst(6));
-        x = cables(3, 100, 100);
+        x = Check.cables(3, 100, 100);
         x.look(0, 0, 2, 0, 1);
         C.due("pings are of one host here", 200, x.worst(7));
     }
 
     private static void worstOfTwelve() {
-        NetSchool x = cables(12, 1, 2, 3, 4, 5, 6, 7, 8, 9, 10, 11, 12);
+        NetSchool x = Check.cables(12, 1, 2, 3, 4, 5, 6, 7, 8, 9, 10, 11, 12);
         C.due("worst of all", 66, x.worst(4095));
         C.due("first of all", 0, x.first(4095));
         C.due("tells of all", 0, x.tells(4095));
         C.due("worst(4096)", -1, x.worst(4096));
-        x = cables(12, 100, 100, 100, 100, 100, 100, 100, 100, 100, 100, 100, 100);
+        x = Check.cables(12, 100, 100, 100, 100, 100, 100, 100, 100, 100, 100, 100, 100);
         C.due("the dearest", 1100, x.worst(4095));
     }
 
@@ -477,17 +460,17 @@ public final class DoctorTest {
         C.due("tells(-1)", -1, x.tells(-1));
         C.due("tells of one", -1, x.tells(8));
         C.due("tells of the first one", -1, x.tells(1));
-        x = cables(4, 7, 7, 7);
+        x = Check.cables(4, 7, 7, 7);
         C.due("then the least number", 0, x.tells(15));
         C.due("then the least number that parts", 1, x.tells(6));
-        x = cables(4, 7, 6, 6);
+        x = Check.cables(4, 7, 6, 6);
         C.due("the least price, then number", 1, x.tells(15));
-        C.due("none parts the two", -1, cables(4, 7, 6).tells(12));
+        C.due("none parts the two", -1, Check.cables(4, 7, 6).tells(12));
     }
 
     private static void promise22First() {
-        C.due("first ahead of any other call", 1, cables(4, 30, 20, 10).first(3));
-        NetSchool x = cables(4, 30, 20, 10);
+        C.due("first ahead of any other call", 1, Check.cables(4, 30, 20, 10).first(3));
+        NetSchool x = Check.cables(4, 30, 20, 10);
         C.due("worst", 60, x.worst(15));
         C.due("the least number of equal ways", 0, x.first(15));
         C.due("first(3)", 1, x.first(3));
@@ -495,7 +478,7 @@ public final class DoctorTest {
         C.due("first(0)", -1, x.first(0));
         C.due("first(16)", -1, x.first(16));
         C.due("first(-1)", -1, x.first(-1));
-        C.due("no look parts", -1, cables(4, 7, 6).first(12));
+        C.due("no look parts", -1, Check.cables(4, 7, 6).first(12));
         x = traces();
         x.look(1, 0, 1, 0, 90);
         x.look(4, 0, 0, 0, 10);
@@ -513,7 +496,7 @@ public final class DoctorTest {
     }
 
     private static void tablesAreNewBehindChanges() {
-        NetSchool x = cables(3, 5, 6);
+        NetSchool x = Check.cables(3, 5, 6);
         C.due("worst before", 11, x.worst(7));
         x.look(4, 2, 0, 0, 1);
         C.due("worst with one look more", 6, x.worst(7));

@@ -16,24 +16,8 @@ public final class LessonTest {
         C.end();
     }
 
-    /** Causes 0: line 2 cut, 1: line 3 cut, 2: both, 3: service 0 of host 1; ping and two cables. */
-    private static NetSchool school() {
-        NetSchool x = Check.smallNet();
-        x.fault(0, 2, 0, 0);
-        x.fault(0, 3, 0, 0);
-        x.fault(5, 1, 0, 0);
-        x.cause(0, -1);
-        x.cause(1, -1);
-        x.cause(0, 1);
-        x.cause(2, -1);
-        x.look(0, 0, 1, 0, 5);
-        x.look(4, 2, 0, 0, 7);
-        x.look(4, 3, 0, 0, 8);
-        return x;
-    }
-
     private static void promise23Begin() {
-        NetSchool x = school();
+        NetSchool x = Check.school();
         for (int far : FAR) {
             C.due("begin(far)", false, x.begin(far));
         }
@@ -57,7 +41,7 @@ public final class LessonTest {
     }
 
     private static void promise24Use() {
-        NetSchool x = school();
+        NetSchool x = Check.school();
         C.due("no lesson", -2, x.use(0));
         x.begin(2);
         for (int far : FAR) {
@@ -83,7 +67,7 @@ public final class LessonTest {
     }
 
     private static void promise25Left() {
-        NetSchool x = school();
+        NetSchool x = Check.school();
         C.due("no lesson", -2, x.left());
         x.begin(2);
         x.use(0);
@@ -115,7 +99,7 @@ public final class LessonTest {
     }
 
     private static void promise26Mend() {
-        NetSchool x = school();
+        NetSchool x = Check.school();
         C.due("no lesson", -2, x.mend(0));
         x.begin(2);
         for (int far : FAR) {
@@ -138,7 +122,7 @@ public final class LessonTest {
     }
 
     private static void promise27Well() {
-        NetSchool x = school();
+        NetSchool x = Check.school();
         C.due("no lesson", -2, x.well());
         x.begin(2);
         C.due("not well", 0, x.well());
@@ -171,7 +155,7 @@ public final class LessonTest {
     }
 
     private static void promise28Claim() {
-        NetSchool x = school();
+        NetSchool x = Check.school();
         C.due("no lesson", -2, x.claim(0));
         x.cause(1, 0);
         x.begin(2);
@@ -199,7 +183,7 @@ public final class LessonTest {
     }
 
     private static void promise29Mark() {
-        NetSchool x = school();
+        NetSchool x = Check.school();
         for (int what = -1; what < 7; what++) {
             C.due("no lesson", -2, x.mark(what));
         }
@@ -223,7 +207,7 @@ public final class LessonTest {
     }
 
     private static void promise30Row() {
-        NetSchool x = school();
+        NetSchool x = Check.school();
         for (int far : FAR) {
             C.dueNoRow("no row", x, far);
         }
@@ -250,7 +234,7 @@ public final class LessonTest {
     }
 
     private static void askingEndsNoLesson() {
-        NetSchool x = school();
+        NetSchool x = Check.school();
         x.begin(2);
         x.use(0);
         x.goes(0, 0, 0, 1);

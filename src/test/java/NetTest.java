@@ -274,14 +274,7 @@ public final class NetTest {
     }
 
     private static void fillAll(NetSchool x) {
-        for (int kind : new int[] {0, 0, 0, 1, 2, 3}) {
-            x.node(kind);
-        }
-        x.line(0, 3);
-        x.line(3, 4);
-        x.line(4, 5);
-        x.line(5, 1);
-        x.line(3, 2);
+        Check.addSmallNet(x);
         x.route(4, 1, 3);
         x.deny(5, 1, 2, true);
         x.on(1, 2, false);
