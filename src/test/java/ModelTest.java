@@ -143,9 +143,9 @@ public final class ModelTest {
             case 21: if (pick(3) == 0) { due(run, i, "worst(" + set + ")", m.worst(set), x.worst(set)); }
                 else { due(run, i, "tells(" + set + ")", m.tells(set), x.tells(set)); } break;
             case 22: if (pick(3) == 0) { due(run, i, "first(" + set + ")", m.first(set), x.first(set)); }
-                else if (!m.lesson) { int c = some(causes); due(run, i, "begin(" + c + ")", bit(m.begin(c)), bit(x.begin(c))); } break;
+                else if (!m.lesson || pick(8) == 0) { int c = some(causes); due(run, i, "begin(" + c + ")", bit(m.begin(c)), bit(x.begin(c))); } break;
             case 23: case 24: { int l = some(looks); due(run, i, "use(" + l + ")", m.use(l), x.use(l)); due(run, i, "left()", m.left(), x.left()); break; }
-            case 25: if (pick(3) == 0) { int f = some(m.faults.size()); due(run, i, "mend(" + f + ")", m.mend(f), x.mend(f)); }
+            case 25: if (pick(3) != 0) { int f = some(m.faults.size()); due(run, i, "mend(" + f + ")", m.mend(f), x.mend(f)); }
                 else { due(run, i, "well()", m.well(), x.well()); } break;
             case 26: { int c = some(causes); due(run, i, "claim(" + c + ")", m.claim(c), x.claim(c)); break; }
             case 27: { int w = pick(2) == 0 ? pick(5) : some(6); due(run, i, "mark(" + w + ")", m.mark(w), x.mark(w)); break; }

@@ -305,22 +305,24 @@ public final class NetEdgeTest {
 
     private static void onOrNot() {
         C.sentence("6: A SERVICE of a HOST is ON, or not: true");
-        NetSchool x = Check.smallNet();
-        x.namer(2);
-        x.name(0, 1);
-        for (int service = 0; service < 4; service++) {
-            x.look(2, 0, 0, service, 1);
-            C.due("on, as at first", true, x.on(1, service, true));
-            C.due("it is", 11, x.answer(service, -1));
-            C.due("off", true, x.on(1, service, false));
-            C.due("it is not", 4, x.answer(service, -1));
-            C.due("off again", true, x.on(1, service, false));
-            C.due("it is not still", 4, x.answer(service, -1));
+        for (int host = 0; host < 3; host++) {
+            NetSchool x = Check.smallNet();
+            x.namer(host == 2 ? 1 : 2);
+            x.name(0, host);
+            for (int service = 0; service < 4; service++) {
+                x.look(2, 0, 0, service, 1);
+                C.due("on, as at first", true, x.on(host, service, true));
+                C.due("it is", 10 + host, x.answer(service, -1));
+                C.due("off", true, x.on(host, service, false));
+                C.due("it is not", 4, x.answer(service, -1));
+                C.due("off again", true, x.on(host, service, false));
+                C.due("it is not still", 4, x.answer(service, -1));
+            }
+            C.due("on again", true, x.on(host, 2, true));
+            C.due("it is again", 10 + host, x.answer(2, -1));
+            C.due("the next one is not", 4, x.answer(3, -1));
+            C.due("the one ahead is not", 4, x.answer(1, -1));
         }
-        C.due("on again", true, x.on(1, 2, true));
-        C.due("it is again", 11, x.answer(2, -1));
-        C.due("the next one is not", 4, x.answer(3, -1));
-        C.due("the one ahead is not", 4, x.answer(1, -1));
     }
 
     private static void onOfNoneSuch() {
@@ -495,6 +497,31 @@ public final class NetEdgeTest {
             x.clear();
             Watch.dueLike(C, "cleared", new NetSchool(), x);
         }
+        for (int first = 0; first < 4; first++) {
+            for (int later = 0; later < 4; later++) {
+                NetSchool x = Check.net(first, first, first);
+                x.line(0, 1);
+                x.line(1, 2);
+                x.clear();
+                dueKinds(x, later);
+            }
+        }
+    }
+
+    /** One node of the kind behind another one, then a third and a fourth: what was there ahead of clear() is not seen. */
+    private static void dueKinds(NetSchool x, int kind) {
+        x.node(0);
+        C.due("no second HOST", false, x.on(1, 0, true));
+        C.due("no second WALL", false, x.deny(1, 0, 0, true));
+        C.due("no second ROUTER", false, x.route(1, 0, -1));
+        x.node(kind);
+        x.node(0);
+        x.line(0, 1);
+        x.line(1, 2);
+        C.due("a HOST", kind == 0, x.on(1, 0, true));
+        C.due("a WALL", kind == 3, x.deny(1, 0, 0, false));
+        C.due("a ROUTER or WALL", kind >= 2, x.route(1, 0, -1));
+        C.due("passed, if it is no HOST", kind == 0 ? -1 : 1, x.next(0, 2, 1));
     }
 
     private static void clearMakesRoom() {

@@ -33,6 +33,7 @@ public final class TermsEdgeTest {
         faultsOfEachKind();
         anyNodeButA();
         causesAtMost12();
+        bothHold();
         theSecondOneHolds();
         withoutCauseWell();
         looksAtMost12();
@@ -72,6 +73,12 @@ public final class TermsEdgeTest {
             C.due(node + " is a HOST", node == 0, x.on(node, 0, true));
             C.due(node + " is a ROUTER or WALL", node >= 2, x.route(node, 4, -1));
             C.due(node + " is a WALL", node == 3, x.deny(node, 4, 0, false));
+        }
+        for (int kind = 0; kind < 4; kind++) {
+            x = Check.net(kind, 0);
+            C.due("the first one is a HOST", kind == 0, x.on(0, 0, true));
+            C.due("the first one is a ROUTER or WALL", kind >= 2, x.route(0, 1, -1));
+            C.due("the first one is a WALL", kind == 3, x.deny(0, 1, 0, false));
         }
     }
 
@@ -576,6 +583,35 @@ public final class TermsEdgeTest {
         C.due("with one behind it", false, x.begin(12));
         C.due("both", 1, x.mend(1));
         C.due("both", 0, x.mend(0));
+    }
+
+    private static void bothHold() {
+        C.sentence("one or two FAULTS: both hold, where they tell of two things");
+        NetSchool x = calls();
+        int[][] faults = {
+            {0, 0, 0, 0}, {0, 3, 0, 0}, {1, 0, 0, 0}, {1, 1, 0, 0}, {2, 0, 0, 0}, {2, 1, 1, 0},
+            {3, 5, 1, 0}, {3, 5, 0, 0}, {4, 4, 1, 0}, {4, 5, 0, 1}, {5, 0, 3, 0}, {5, 1, 3, 0},
+        };
+        for (int[] f : faults) {
+            x.fault(f[0], f[1], f[2], f[3]);
+        }
+        for (int i = 0; i < 6; i++) {
+            x.cause(2 * i, 2 * i + 1);
+            x.cause(2 * i + 1, 2 * i);
+        }
+        x.look(4, 0, 0, 0, 1);
+        x.look(4, 3, 0, 0, 1);
+        x.look(1, 0, 1, 0, 1);
+        x.look(1, 1, 0, 0, 1);
+        x.look(2, 2, 1, 0, 1);
+        x.name(2, 0);
+        x.look(2, 2, 2, 3, 1);
+        int[][] looksOf = {{3, 0, 4, 0}, {5, 4, 6, 4}, {0, 10, 7, 11}, {5, 3, 6, 1}, {5, 2, 6, 30}, {0, 4, 8, 4}};
+        for (int cause = 0; cause < 12; cause++) {
+            int[] l = looksOf[cause / 2];
+            C.due("look " + l[0] + " by " + cause, l[1], x.answer(l[0], cause));
+            C.due("look " + l[2] + " by " + cause, l[3], x.answer(l[2], cause));
+        }
     }
 
     private static void theSecondOneHolds() {

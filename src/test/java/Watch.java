@@ -22,7 +22,7 @@ final class Watch {
     /** The small net with all told that can be, faults of each kind, causes, looks and a row. */
     static void tellAll(NetSchool x) {
         Check.addSchool(x);
-        x.route(5, 0, 4);
+        x.route(4, 2, 0);
         x.deny(5, 2, 3, true);
         x.on(1, 2, false);
         x.name(0, 1);
