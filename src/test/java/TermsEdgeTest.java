@@ -50,6 +50,7 @@ public final class TermsEdgeTest {
         leftAheadOfAnyMend();
         endsTheLesson();
         theRowIsToldLast();
+        the512thCall();
         C.end();
     }
 
@@ -985,5 +986,27 @@ public final class TermsEdgeTest {
         C.dueRow("what is built", x, 2, 4);
         x.clear();
         C.dueRow("clear", x);
+    }
+
+    private static void the512thCall() {
+        C.sentence("An object is used for at most 512 calls after it has been made");
+        NetSchool x = Check.school();
+        int calls = 21;
+        x.begin(2);
+        calls++;
+        int uses = 0;
+        while (calls + 4 < 512) {
+            x.use(0);
+            uses++;
+            x.goes(uses % 2 - 1, 0, 0, 1);
+            x.worst(15);
+            x.claim(2);
+            calls += 4;
+        }
+        while (calls < 511) {
+            x.left();
+            calls++;
+        }
+        C.due("minutes in the 512th call", 5 * uses, x.mark(0));
     }
 }
