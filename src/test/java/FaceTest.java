@@ -8,6 +8,7 @@ import java.nio.file.Path;
 import java.util.Arrays;
 import java.util.HashSet;
 import java.util.Set;
+import java.util.regex.Matcher;
 import java.util.regex.Pattern;
 
 /** The document's face, and what of LANGUAGE.md can be read from the class and its file. */
@@ -45,7 +46,44 @@ public final class FaceTest {
         for (String rule : OUTSIDE) {
             C.due("file has " + rule, false, Pattern.compile(rule).matcher(source).find());
         }
+        Path document = Path.of("../shared/DOC.md");
+        if (Files.exists(document)) {
+            faceIsTheDocuments(source, Files.readString(document));
+        }
+        methodsAreShort(source);
         C.end();
+    }
+
+    /** Each line of the document's face stands in the file as it is there, with a body in place of its sign. */
+    private static void faceIsTheDocuments(String source, String document) {
+        int start = document.indexOf("```java\n", document.indexOf("## The public face"));
+        String face = document.substring(start, document.indexOf("```", start + 3));
+        int lines = 0;
+        for (String line : face.split("\n")) {
+            String told = line.trim();
+            if (told.startsWith("public ")) {
+                lines++;
+                boolean isThere = source.contains(told + "\n") || source.contains(told.replace(";", " {\n"));
+                C.due("the file has " + told, true, isThere);
+            }
+        }
+        C.due("public lines of the file", lines, source.split("\\bpublic\\b", -1).length - 1);
+        C.due("public lines of the document", FACE.length + 3, lines);
+    }
+
+    private static void methodsAreShort(String source) {
+        Matcher method = Pattern.compile("\n( {4}| {8})(\\w[^;={]*\\([^)]*\\) (throws \\w+ )?)\\{\n").matcher(source);
+        int found = 0;
+        while (method.find()) {
+            if (method.group(2).matches("(if|for|while|switch) .*")) {
+                continue;
+            }
+            found++;
+            int end = source.indexOf("\n" + method.group(1) + "}\n", method.start());
+            int lines = source.substring(method.end(), end).split("\n").length;
+            C.due(method.group(2) + "has at most sixty lines", true, lines <= 60);
+        }
+        C.due("methods are found", true, found > FACE.length);
     }
 
     private static String told(Method m) {
